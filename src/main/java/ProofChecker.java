@@ -59,7 +59,12 @@ public final class ProofChecker {
     }
 
     public int fails() {
-        return firstRuleNotMet();
+        for (int rule = 0; rule < rules.count(); rule++) {
+            if (!rules.allSaid(rule, said) || !rules.meets(rule, said)) {
+                return rule;
+            }
+        }
+        return NONE;
     }
 
     public int line(int kind, int number) {
@@ -90,15 +95,28 @@ public final class ProofChecker {
     }
 
     public int check() {
-        return countRight();
+        int right = 0;
+        while (right < lines.count() && followsFromLinesAhead(right)) {
+            right++;
+        }
+        return right;
     }
 
     public int proves() {
         int count = lines.count();
-        if (count == 0 || lines.sizeOf(count - 1) != 0 || countRight() != count) {
+        if (count == 0 || lines.sizeOf(count - 1) != 0) {
             return 0;
         }
-        return lines.hasKind(Lines.BARRED) ? 2 : 1;
+        int proof = 1;
+        for (int line = 0; line < count; line++) {
+            if (!followsFromLinesAhead(line)) {
+                return 0;
+            }
+            if (lines.kindOf(line) == Lines.BARRED) {
+                proof = 2;
+            }
+        }
+        return proof;
     }
 
     public int tell(int line, int what) throws ArrayIndexOutOfBoundsException {
@@ -158,31 +176,15 @@ public final class ProofChecker {
         return 2 * place + (Lines.saysIs(literal) ? 1 : 0);
     }
 
-    private int firstRuleNotMet() {
-        for (int rule = 0; rule < rules.count(); rule++) {
-            if (!rules.allSaid(rule, said) || !rules.meets(rule, said)) {
-                return rule;
-            }
-        }
-        return NONE;
-    }
-
-    private int countRight() {
-        int right = 0;
-        while (right < lines.count() && followsFromLinesAhead(right)) {
-            right++;
-        }
-        return right;
-    }
-
     private boolean followsFromLinesAhead(int line) {
+        int number = lines.numberOf(line);
         switch (lines.kindOf(line)) {
             case Lines.BY_RULE:
-                return isByRule(line);
+                return rules.has(number) && isByRule(line, number);
             case Lines.BY_UNITS:
-                return isByUnits(line);
+                return units.refute(line);
             case Lines.BY_SPLIT:
-                return isBySplit(line);
+                return grid.hasCell(number) && units.refuteBySplit(line, number);
             default:
                 return isBarred(line);
         }
@@ -192,33 +194,16 @@ public final class ProofChecker {
      * The ways in which no literal is so are just those that the line turned round leaves to
      * the rule's cells, so that only these are tried; what it leaves to other cells has no say.
      */
-    private boolean isByRule(int line) {
-        int rule = lines.numberOf(line);
-        if (!rules.has(rule) || !rules.canBeTried(rule)) {
+    private boolean isByRule(int line, int rule) {
+        if (!rules.canBeTried(rule)) {
             return false;
         }
         units.turnRound(line);
-        return !rules.canBeMet(rule, units);
-    }
-
-    private boolean isByUnits(int line) {
-        units.turnRound(line);
-        return units.comeToNothing(line);
-    }
-
-    private boolean isBySplit(int line) {
-        int cell = lines.numberOf(line);
-        if (!grid.hasCell(cell)) {
-            return false;
-        }
-        units.turnRound(line);
-        return units.comeToNothing(line) || units.comeToNothingBySplit(line, cell);
+        return !rules.canBeMet(rule, units, 0);
     }
 
     private boolean isBarred(int line) {
-        return lines.sizeOf(line) == grid.cells()
-                && deniesOnlyWhatIsSaid(line)
-                && firstRuleNotMet() == NONE;
+        return lines.sizeOf(line) == grid.cells() && deniesOnlyWhatIsSaid(line) && fails() == NONE;
     }
 
     /**
@@ -241,27 +226,23 @@ public final class ProofChecker {
         private static final int MOST_SIDE = 4;
         private static final int MOST_SYMBOLS = 6;
 
+        private final int width;
         private final int cells;
         private final int symbols;
-        /** For each cell the bits of those next to it. */
-        private final int[] nextTo;
+        /** The bits of the cells that have none to the left, and of those that have none to the right. */
+        private final int leftEdge;
+        private final int rightEdge;
 
-        Grid(int width, int height, int symbolsWanted) {
-            int w = within(width, MOST_SIDE);
-            int h = within(height, MOST_SIDE);
-            cells = w * h;
+        Grid(int widthWanted, int heightWanted, int symbolsWanted) {
+            width = within(widthWanted, MOST_SIDE);
+            cells = width * within(heightWanted, MOST_SIDE);
             symbols = within(symbolsWanted, MOST_SYMBOLS);
-            nextTo = new int[MOST_CELLS];
-            for (int y = 0; y < h; y++) {
-                for (int x = 0; x < w; x++) {
-                    int cell = w * y + x;
-                    int above = y > 0 ? 1 << (cell - w) : 0;
-                    int right = x < w - 1 ? 1 << (cell + 1) : 0;
-                    int below = y < h - 1 ? 1 << (cell + w) : 0;
-                    int left = x > 0 ? 1 << (cell - 1) : 0;
-                    nextTo[cell] = above | right | below | left;
-                }
+            int firstOfRows = 0;
+            for (int cell = 0; cell < cells; cell += width) {
+                firstOfRows = firstOfRows | (1 << cell);
             }
+            leftEdge = firstOfRows;
+            rightEdge = firstOfRows << (width - 1);
         }
 
         private static int within(int wanted, int most) {
@@ -290,21 +271,20 @@ public final class ProofChecker {
 
         /** Whether the cells of these bits hang together; none or one does. */
         boolean hangTogether(int bits) {
-            int reached = Integer.lowestOneBit(bits);
-            for (int step = 0; step < cells; step++) {
-                reached = reached | (besides(reached) & bits);
+            // any one cell to start from: the lowest bit
+            int reached = bits & -bits;
+            for (int step = 0; step < cells && reached != bits; step++) {
+                reached = reached | (nextTo(reached) & bits);
             }
             return reached == bits;
         }
 
-        private int besides(int bits) {
-            int found = 0;
-            for (int cell = 0; cell < cells; cell++) {
-                if ((bits & (1 << cell)) != 0) {
-                    found = found | nextTo[cell];
-                }
-            }
-            return found;
+        /** The cells next to these, and perhaps bits above and below THE GRID. */
+        private int nextTo(int bits) {
+            int upAndDown = (bits >> width) | (bits << width);
+            int toTheLeft = (bits & ~leftEdge) >> 1;
+            int toTheRight = (bits & ~rightEdge) << 1;
+            return upAndDown | toTheLeft | toTheRight;
         }
     }
 
@@ -455,12 +435,11 @@ public final class ProofChecker {
             return ways <= MOST_WAYS;
         }
 
-        /** Whether some way to fill its cells with what they may be meets the rule. */
-        boolean canBeMet(int rule, Units units) {
-            return canBeMetFrom(rule, units, 0);
-        }
-
-        private boolean canBeMetFrom(int rule, Units units, int place) {
+        /**
+         * Whether some way to fill its cells, from a place on, with what they may be meets the
+         * rule; the cells ahead of that place are filled.
+         */
+        private boolean canBeMet(int rule, Units units, int place) {
             if (place >= sizes[rule]) {
                 return meets(rule, tried);
             }
@@ -469,7 +448,7 @@ public final class ProofChecker {
             for (int symbol = 0; symbol < grid.symbols(); symbol++) {
                 if ((symbols & (1 << symbol)) != 0) {
                     tried[cell] = symbol;
-                    if (canBeMetFrom(rule, units, place + 1)) {
+                    if (canBeMet(rule, units, place + 1)) {
                         return true;
                     }
                 }
@@ -538,15 +517,6 @@ public final class ProofChecker {
             return literals[MOST_LITERALS * line + place];
         }
 
-        boolean hasKind(int kind) {
-            for (int line = 0; line < count; line++) {
-                if (kinds[line] == kind) {
-                    return true;
-                }
-            }
-            return false;
-        }
-
         void startDraft(int kind, int number) {
             kinds[count] = kind;
             numbers[count] = number;
@@ -591,6 +561,9 @@ public final class ProofChecker {
         private static final int NO_STEP = 0;
         private static final int CHANGED = 1;
         private static final int CANT_BE = 2;
+        private static final int SO = 3;
+        private static final int NOT_SO = 4;
+        private static final int OPEN = 5;
 
         private final Grid grid;
         private final Lines lines;
@@ -627,6 +600,30 @@ public final class ProofChecker {
             symbols[cell] = symbols[cell] & (is ? bit : ~bit);
         }
 
+        /** Whether something can't be, by units from the line turned round. */
+        boolean refute(int line) {
+            turnRound(line);
+            return comeToNothing(line);
+        }
+
+        boolean refuteBySplit(int line, int cell) {
+            if (refute(line)) {
+                return true;
+            }
+            System.arraycopy(symbols, 0, beforeSplit, 0, Grid.MOST_CELLS);
+            for (int symbol = 0; symbol < grid.symbols(); symbol++) {
+                int bit = 1 << symbol;
+                if ((beforeSplit[cell] & bit) != 0) {
+                    System.arraycopy(beforeSplit, 0, symbols, 0, Grid.MOST_CELLS);
+                    symbols[cell] = bit;
+                    if (!comeToNothing(line)) {
+                        return false;
+                    }
+                }
+            }
+            return true;
+        }
+
         /** Goes on by units with the first so many lines; whether something can't be. */
         boolean comeToNothing(int ahead) {
             if (someCellMayBeNothing()) {
@@ -634,29 +631,15 @@ public final class ProofChecker {
             }
             // each change takes a symbol from a cell, so that there are fewer changes than these
             int mostChanges = grid.cells() * grid.symbols();
-            for (int changes = 0; changes <= mostChanges; changes++) {
-                int outcome = firstStep(ahead);
-                if (outcome != CHANGED) {
-                    return outcome == CANT_BE;
+            int line = 0;
+            for (int looks = 0; looks < (mostChanges + 1) * ahead && line < ahead; looks++) {
+                int outcome = stepBy(line);
+                if (outcome == CANT_BE) {
+                    return true;
                 }
+                line = outcome == CHANGED ? 0 : line + 1;
             }
             return false;
-        }
-
-        /** Goes on from where units found nothing that can't be. */
-        boolean comeToNothingBySplit(int ahead, int cell) {
-            System.arraycopy(symbols, 0, beforeSplit, 0, Grid.MOST_CELLS);
-            for (int symbol = 0; symbol < grid.symbols(); symbol++) {
-                int bit = 1 << symbol;
-                if ((beforeSplit[cell] & bit) != 0) {
-                    System.arraycopy(beforeSplit, 0, symbols, 0, Grid.MOST_CELLS);
-                    symbols[cell] = bit;
-                    if (!comeToNothing(ahead)) {
-                        return false;
-                    }
-                }
-            }
-            return true;
         }
 
         private boolean someCellMayBeNothing() {
@@ -668,27 +651,15 @@ public final class ProofChecker {
             return false;
         }
 
-        private int firstStep(int ahead) {
-            for (int line = 0; line < ahead; line++) {
-                int outcome = stepBy(line);
-                if (outcome != NO_STEP) {
-                    return outcome;
-                }
-            }
-            return NO_STEP;
-        }
-
         private int stepBy(int line) {
             int open = NONE;
             for (int place = 0; place < lines.sizeOf(line); place++) {
                 int literal = lines.literalAt(line, place);
-                if (isSo(literal)) {
+                int state = stateOf(literal);
+                if (state == SO || (state == OPEN && open != NONE)) {
                     return NO_STEP;
                 }
-                if (!isNotSo(literal)) {
-                    if (open != NONE) {
-                        return NO_STEP;
-                    }
+                if (state == OPEN) {
                     open = literal;
                 }
             }
@@ -699,26 +670,23 @@ public final class ProofChecker {
             return CHANGED;
         }
 
-        private boolean isSo(int literal) {
-            return Lines.saysIs(literal) ? isThatAlone(literal) : isNotThat(literal);
-        }
-
-        private boolean isNotSo(int literal) {
-            return Lines.saysIs(literal) ? isNotThat(literal) : isThatAlone(literal);
-        }
-
-        private boolean isThatAlone(int literal) {
-            return symbols[Lines.cellOf(literal)] == 1 << Lines.symbolOf(literal);
-        }
-
-        private boolean isNotThat(int literal) {
-            return (symbols[Lines.cellOf(literal)] & (1 << Lines.symbolOf(literal))) == 0;
+        private int stateOf(int literal) {
+            int mayBe = symbols[Lines.cellOf(literal)];
+            int bit = 1 << Lines.symbolOf(literal);
+            if (mayBe == bit) {
+                return Lines.saysIs(literal) ? SO : NOT_SO;
+            }
+            if ((mayBe & bit) == 0) {
+                return Lines.saysIs(literal) ? NOT_SO : SO;
+            }
+            return OPEN;
         }
     }
 
     /**
-     * What is to be read, and how it is read as lines. Each step of the reading answers whether
-     * (or with a number, that) all went well; if not, the place is that of the wrong byte.
+     * What is to be read, and how it is read as lines. Each step of the reading answers whether all
+     * went well (or the number that it read, NONE if there is none); when not, it leaves the place
+     * at the wrong byte.
      */
     private static final class Reader {
         private static final int MOST_BYTES = 300;
@@ -748,7 +716,7 @@ public final class ProofChecker {
             int before = lines.count();
             boolean well = true;
             place = 0;
-            // a line has a byte at least, so that there are no more lines than bytes
+            // each line takes a byte at least, so that there are no more lines than bytes
             for (int line = 0; line < MOST_BYTES && well && place < count; line++) {
                 well = readLine();
             }
