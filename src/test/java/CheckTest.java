@@ -21,8 +21,8 @@ public final class CheckTest {
     private static int right(ProofChecker x, String text) {
         Due.read(x, text);
         int right = x.check();
-        while (x.drop()) {
-            continue;
+        for (int line = 0; line < 60; line++) {
+            x.drop();
         }
         return right;
     }
@@ -95,7 +95,24 @@ public final class CheckTest {
         due.is("the lines behind do not count", right(x, "u +0.0;r0 +0.0;"), 0);
         due.is("nor the line itself", right(x, "r0 -0.1;u +0.0;r0 +0.0;"), 1);
         due.is("from the first one on again", right(x, "r1 -0.0 -1.0;r0 +0.0;u -1.0;"), 3);
+        due.is("the first one, twice", right(x, "r0 +0.0 -1.0;r0 +0.0;r0 -1.0 -0.0;u -1.0;"), 4);
         due.is("its number is free", unitsWithNumber(), 2);
+        longWay();
+    }
+
+    /** Each step is made by the line ahead of the one that made the last. */
+    private static void longWay() {
+        ProofChecker x = new ProofChecker(4, 4, 2);
+        x.rule(1, 99);
+        for (int cell = 15; cell > 0; cell--) {
+            Due.read(x, "r0 -" + (cell - 1) + ".1 +" + cell + ".1;");
+        }
+        Due.read(x, "r0 +0.1;");
+        due.is("may(15) the long way", x.may(15), 2);
+        Due.read(x, "u +15.1;");
+        due.is("by units the long way", x.check(), 17);
+        Due.read(x, "u +15.0;");
+        due.is("by units not the other symbol", x.check(), 17);
     }
 
     private static int unitsWithNumber() {
@@ -167,7 +184,9 @@ public final class CheckTest {
         due.is("barred, no literals", right(x, "b;"), 0);
         due.is("barred, one too many", right(x, "b -0.1 -1.2 -1.1;"), 0);
         due.is("barred, a literal that it is", right(x, "b -0.1 +1.2;"), 0);
+        due.is("barred, a first literal that it is", right(x, "b +0.1 -1.2;"), 0);
         due.is("barred, another symbol", right(x, "b -0.1 -1.1;"), 0);
+        due.is("barred, another symbol first", right(x, "b -0.2 -1.2;"), 0);
         due.is("barred, one cell twice", right(x, "b -0.1 -0.2;"), 0);
         due.is("barred lines are used by units", right(x, "b -0.1 -1.2;u -0.1 -1.2;"), 2);
         x.rule(1, 1);
@@ -221,6 +240,12 @@ public final class CheckTest {
         due.is("proves: the last line has none again", x.proves(), 1);
         Due.read(x, "b;");
         due.is("proves: the last line is wrong", x.proves(), 0);
+        ProofChecker z = new ProofChecker(2, 1, 2);
+        z.rule(1, 3);
+        Due.read(z, "r1;u;");
+        due.is("proves: the first line is wrong", z.proves(), 0);
+        z.rule(1, 3);
+        due.is("proves: as all is now", z.proves(), 1);
         ProofChecker y = new ProofChecker(2, 1, 2);
         Due.rule(y, 2, 0, 0, 1);
         Due.answer(y, 0, 1);

@@ -111,6 +111,15 @@ public final class ReadTest {
         due.is(whole, read(whole), 1);
         due.is("u", read("u"), -2);
         due.is("b", read("b"), -2);
+        String[] tails = {"u", "r", "r1", "u ", "u +", "u +0", "u +1", "u +1.", "u +1.0", "u +1.1"};
+        String full = "u +0.0 +0.1 +0.2 -0.0 -0.1 -0.2 +1.0;".repeat(8);
+        for (String tail : tails) {
+            StringBuilder text = new StringBuilder(full.substring(0, full.length() - 37));
+            while (text.length() + tail.length() < 300) {
+                text.append((300 - text.length() - tail.length()) % 2 == 0 ? "u;" : "r1;");
+            }
+            due.is("the end behind 300 bytes and " + tail, read(text + tail), -301);
+        }
     }
 
     private static void cellsAndSymbols() {

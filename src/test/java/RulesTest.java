@@ -12,6 +12,7 @@ public final class RulesTest {
         rise();
         likeTheFirst();
         hangTogether();
+        hangTogetherInAllWays();
         notSaid();
         fails();
         due.end();
@@ -133,6 +134,8 @@ public final class RulesTest {
         due.is("hang together: a snake", tested(4, 0, all, 1, 1, 1, 0, 0, 1, 1, 1, 1), 1);
         due.is("hang together: the long way round", tested(4, 0, all, 1, 0, 1, 1, 0, 1, 1, 1, 1), 1);
         due.is("hang together: corners", tested(4, 0, all, 1, 0, 0, 0, 1, 0, 0, 0, 0), 0);
+        due.is("hang together: to the left", tested(4, 0, all, 0, 1, 0, 1, 1, 0, 0, 0, 0), 1);
+        due.is("hang together: upwards", tested(4, 0, all, 1, 0, 1, 1, 1, 1, 0, 0, 0), 1);
         due.is("hang together: two halves", tested(4, 0, all, 1, 1, 1, 0, 0, 0, 1, 1, 1), 0);
         due.is("hang together: over the edge", tested(4, 0, all, 0, 0, 1, 1, 0, 0, 0, 0, 0), 0);
         due.is("hang together: other symbols do not join",
@@ -141,6 +144,31 @@ public final class RulesTest {
                 tested(4, 0, new int[] {0, 2}, 1, 1, 1, 0, 0, 0, 0, 0, 0), 0);
         due.is("hang together: a cell outside of the rule does not matter",
                 tested(4, 0, new int[] {0, 1}, 1, 1, 0, 0, 0, 0, 0, 0, 1), 1);
+    }
+
+    /** All fillings with 0 and 1 of up to nine cells, in grids of all sizes. */
+    private static void hangTogetherInAllWays() {
+        for (int width = 1; width <= 4; width++) {
+            for (int height = 1; height <= 4; height++) {
+                int cells = Math.min(9, width * height);
+                int last = width * height - 1;
+                for (int filling = 0; filling < 1 << cells; filling++) {
+                    ProofChecker x = new ProofChecker(width, height, 2);
+                    Model model = new Model(width, height, 2);
+                    x.rule(4, 0);
+                    model.rule(4, 0);
+                    for (int n = 0; n < cells; n++) {
+                        // from the last cell back, so that larger grids leave out other cells
+                        x.into(0, last - n);
+                        model.into(0, last - n);
+                        x.answer(last - n, filling >> n & 1);
+                        model.answer(last - n, filling >> n & 1);
+                    }
+                    due.is("hang together: " + width + " by " + height + " filled with " + filling,
+                            x.test(0), model.test(0));
+                }
+            }
+        }
     }
 
     private static void notSaid() {
@@ -155,6 +183,9 @@ public final class RulesTest {
         due.is("test: changed", x.test(0), 1);
         x.answer(1, -1);
         due.is("test: not said any more", x.test(0), -1);
+        x.answer(1, 1);
+        x.answer(0, -1);
+        due.is("test: the first one is not said", x.test(0), -1);
     }
 
     private static void fails() {
@@ -171,5 +202,12 @@ public final class RulesTest {
         due.is("fails: all are met", x.fails(), -1);
         x.rule(1, 2);
         due.is("fails: a new rule", x.fails(), 3);
+        ProofChecker full = new ProofChecker(2, 2, 2);
+        for (int n = 0; n < 30; n++) {
+            full.rule(1, 0);
+        }
+        due.is("fails: 30 rules that are met", full.fails(), -1);
+        full.into(29, 0);
+        due.is("fails: the last of 30", full.fails(), 29);
     }
 }
