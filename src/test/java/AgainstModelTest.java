@@ -3,9 +3,16 @@ import java.util.Random;
 /** All promises: many runs of calls of all kinds, each answer compared with the model's. */
 public final class AgainstModelTest {
     private static final int RUNS = 1500;
+    /** What an object answers to later calls is free. */
+    private static final int MOST_CALLS = 512;
     private static final Due due = new Due();
     private static final int[] rights = new int[4];
     private static final int[] proofs = new int[3];
+
+    private static int runsToTheEnd = 0;
+
+    private static final class NoCallLeft extends RuntimeException {
+    }
 
     private final Random random;
     private final ProofChecker x;
@@ -29,7 +36,7 @@ public final class AgainstModelTest {
 
     public static void main(String[] args) {
         for (int run = 0; run < RUNS; run++) {
-            new AgainstModelTest(run).go(run);
+            new AgainstModelTest(run).goWhileCallsAreLeft(run);
         }
         // runs in which nothing is ever right would compare nothing
         for (int kind = 0; kind < 4; kind++) {
@@ -38,6 +45,7 @@ public final class AgainstModelTest {
         for (int proof = 0; proof < 3; proof++) {
             due.is("proofs that answer " + proof + " were seen", proofs[proof] > 150, true);
         }
+        due.is("runs of as many calls as there may be were seen", runsToTheEnd > 50, true);
         due.end();
     }
 
@@ -57,8 +65,16 @@ public final class AgainstModelTest {
         return seldom() ? between(-2, 8) : random.nextInt(symbols);
     }
 
+    private void goWhileCallsAreLeft(int run) {
+        try {
+            go(run);
+        } catch (NoCallLeft e) {
+            runsToTheEnd++;
+        }
+    }
+
     private void go(int run) {
-        int most = run % 10 == 0 ? 500 : 150;
+        int most = run % 10 == 0 ? MOST_CALLS : 150;
         int readiness = between(1, 4);
         boolean tidy = run % 4 != 0;
         for (int step = 0; calls < most && step < most; step++) {
@@ -89,18 +105,13 @@ public final class AgainstModelTest {
     }
 
     private Object same(String call, Due.Call own, Due.Call other) {
-        calls++;
-        Object got = outcome(own);
-        due.is(name + "call " + calls + " " + call, got, outcome(other));
-        return got;
-    }
-
-    private static Object outcome(Due.Call call) {
-        try {
-            return call.make();
-        } catch (RuntimeException e) {
-            return e.getClass().getName();
+        if (calls == MOST_CALLS) {
+            throw new NoCallLeft();
         }
+        calls++;
+        Object got = Due.outcome(own);
+        due.is(name + "call " + calls + " " + call, got, Due.outcome(other));
+        return got;
     }
 
     private void makeRule() {
@@ -153,7 +164,7 @@ public final class AgainstModelTest {
         int made = makeLine();
         int right = (Integer) same("check()", x::check, model::check);
         if (made >= 0 && right == made + 1) {
-            rights[x.tell(made, 0)]++;
+            rights[model.tell(made, 0)]++;
         } else if (made >= 0 && !seldom()) {
             same("drop()", x::drop, model::drop);
         }

@@ -17,39 +17,29 @@ public final class CheckTest {
         due.end();
     }
 
-    /** How many of the lines of a text are right. */
-    private static int right(ProofChecker x, String text) {
-        Due.read(x, text);
-        int right = x.check();
-        for (int line = 0; line < 60; line++) {
-            x.drop();
-        }
-        return right;
-    }
-
     private static void byRule() {
         ProofChecker x = new ProofChecker(3, 1, 3);
         Due.rule(x, 0, 0, 0, 1);
         Due.rule(x, 1, 4, 0, 1);
         Due.rule(x, 2, 0, 0, 1, 2);
-        due.is("unlike: one of both is not 1", right(x, "r0 -0.1 -1.1;"), 1);
-        due.is("unlike: one of both is 1", right(x, "r0 +0.1 +1.1;"), 0);
-        due.is("unlike: one of both is 0 or 1", right(x, "r0 +0.0 +0.1 +1.0 +1.1;"), 1);
-        due.is("unlike: a literal of another cell is not so", right(x, "r0 +2.0 +2.1 +2.2;"), 0);
-        due.is("unlike: nor is that it is not", right(x, "r0 -2.0 -2.1;"), 0);
-        due.is("unlike: a cell is one or is not", right(x, "r0 +0.1 -0.1;"), 1);
-        due.is("unlike: a cell is not one or not the other", right(x, "r0 -0.1 -0.2;"), 1);
-        due.is("unlike: no literals", right(x, "r0;"), 0);
-        due.is("add up: both are 2", right(x, "r1 +0.2;r1 +1.2;r1 -0.1;"), 3);
-        due.is("rise: all are known", right(x, "r2 +0.0;r2 +1.1;r2 +2.2;"), 3);
-        due.is("rise: not this", right(x, "r2 +0.1;"), 0);
-        due.is("no such rule", right(x, "r3 +0.1 -0.1;"), 0);
+        due.is("unlike: one of both is not 1", Due.right(x, "r0 -0.1 -1.1;"), 1);
+        due.is("unlike: one of both is 1", Due.right(x, "r0 +0.1 +1.1;"), 0);
+        due.is("unlike: one of both is 0 or 1", Due.right(x, "r0 +0.0 +0.1 +1.0 +1.1;"), 1);
+        due.is("unlike: a literal of another cell is not so", Due.right(x, "r0 +2.0 +2.1 +2.2;"), 0);
+        due.is("unlike: nor is that it is not", Due.right(x, "r0 -2.0 -2.1;"), 0);
+        due.is("unlike: a cell is one or is not", Due.right(x, "r0 +0.1 -0.1;"), 1);
+        due.is("unlike: a cell is not one or not the other", Due.right(x, "r0 -0.1 -0.2;"), 1);
+        due.is("unlike: no literals", Due.right(x, "r0;"), 0);
+        due.is("add up: both are 2", Due.right(x, "r1 +0.2;r1 +1.2;r1 -0.1;"), 3);
+        due.is("rise: all are known", Due.right(x, "r2 +0.0;r2 +1.1;r2 +2.2;"), 3);
+        due.is("rise: not this", Due.right(x, "r2 +0.1;"), 0);
+        due.is("no such rule", Due.right(x, "r3 +0.1 -0.1;"), 0);
         x.line(0, -1);
-        due.is("rule -1", right(x, ""), 0);
+        due.is("rule -1", Due.rightAndGone(x), 0);
         x.line(0, Integer.MAX_VALUE);
-        due.is("rule MAX", right(x, ""), 0);
+        due.is("rule MAX", Due.rightAndGone(x), 0);
         Due.rule(x, 1, 5, 0, 1);
-        due.is("no way meets it", right(x, "r3;"), 1);
+        due.is("no way meets it", Due.right(x, "r3;"), 1);
     }
 
     private static void byRuleWithoutCells() {
@@ -57,10 +47,10 @@ public final class CheckTest {
         x.rule(1, 3);
         x.rule(1, 0);
         x.rule(3, 5);
-        due.is("never met", right(x, "r0;r0 +0.1;"), 2);
-        due.is("always met", right(x, "r1;"), 0);
-        due.is("always met, with literals", right(x, "r1 +0.0 +0.1;"), 0);
-        due.is("kind 3, always met", right(x, "r2;"), 0);
+        due.is("never met", Due.right(x, "r0;r0 +0.1;"), 2);
+        due.is("always met", Due.right(x, "r1;"), 0);
+        due.is("always met, with literals", Due.right(x, "r1 +0.0 +0.1;"), 0);
+        due.is("kind 3, always met", Due.right(x, "r2;"), 0);
     }
 
     private static void waysAtMost() {
@@ -71,7 +61,7 @@ public final class CheckTest {
             x.rule(1, 99);
             for (int cell = 0; cell < 9; cell++) {
                 x.into(0, cell);
-                due.is(symbols + " symbols, " + (cell + 1) + " cells", right(x, "r0;"),
+                due.is(symbols + " symbols, " + (cell + 1) + " cells", Due.right(x, "r0;"),
                         cell + 1 <= most[symbols - 1] ? 1 : 0);
             }
         }
@@ -82,20 +72,20 @@ public final class CheckTest {
         // lines that can't be followed from a rule are still seen by may; check needs right ones
         Due.rule(x, 2, 0, 0, 1, 2);
         Due.rule(x, 0, 0, 0, 1);
-        due.is("nothing ahead", right(x, "u +0.0;"), 0);
-        due.is("a cell that may be nothing", right(x, "u +0.0 +0.1 +0.2;"), 1);
-        due.is("not one and not the other, without lines ahead", right(x, "u -0.0 -0.1;"), 1);
-        due.is("is or is not", right(x, "u -0.0 +0.0;"), 1);
-        due.is("no literals, nothing ahead", right(x, "u;"), 0);
-        due.is("the same again", right(x, "r0 +0.0;u +0.0;"), 2);
-        due.is("more literals", right(x, "r0 +0.0;u +2.1 +0.0;"), 2);
-        due.is("one step", right(x, "r0 +0.0;r1 -0.0 -1.0;u -1.0;"), 3);
-        due.is("the last one that is left", right(x, "r0 -0.1;r0 -0.2;u +0.0;"), 3);
-        due.is("a symbol less is not enough", right(x, "r0 -0.1;u +0.0;"), 1);
-        due.is("the lines behind do not count", right(x, "u +0.0;r0 +0.0;"), 0);
-        due.is("nor the line itself", right(x, "r0 -0.1;u +0.0;r0 +0.0;"), 1);
-        due.is("from the first one on again", right(x, "r1 -0.0 -1.0;r0 +0.0;u -1.0;"), 3);
-        due.is("the first one, twice", right(x, "r0 +0.0 -1.0;r0 +0.0;r0 -1.0 -0.0;u -1.0;"), 4);
+        due.is("nothing ahead", Due.right(x, "u +0.0;"), 0);
+        due.is("a cell that may be nothing", Due.right(x, "u +0.0 +0.1 +0.2;"), 1);
+        due.is("not one and not the other, without lines ahead", Due.right(x, "u -0.0 -0.1;"), 1);
+        due.is("is or is not", Due.right(x, "u -0.0 +0.0;"), 1);
+        due.is("no literals, nothing ahead", Due.right(x, "u;"), 0);
+        due.is("the same again", Due.right(x, "r0 +0.0;u +0.0;"), 2);
+        due.is("more literals", Due.right(x, "r0 +0.0;u +2.1 +0.0;"), 2);
+        due.is("one step", Due.right(x, "r0 +0.0;r1 -0.0 -1.0;u -1.0;"), 3);
+        due.is("the last one that is left", Due.right(x, "r0 -0.1;r0 -0.2;u +0.0;"), 3);
+        due.is("a symbol less is not enough", Due.right(x, "r0 -0.1;u +0.0;"), 1);
+        due.is("the lines behind do not count", Due.right(x, "u +0.0;r0 +0.0;"), 0);
+        due.is("nor the line itself", Due.right(x, "r0 -0.1;u +0.0;r0 +0.0;"), 1);
+        due.is("from the first one on again", Due.right(x, "r1 -0.0 -1.0;r0 +0.0;u -1.0;"), 3);
+        due.is("the first one, twice", Due.right(x, "r0 +0.0 -1.0;r0 +0.0;r0 -1.0 -0.0;u -1.0;"), 4);
         due.is("its number is free", unitsWithNumber(), 2);
         longWay();
     }
@@ -130,67 +120,69 @@ public final class CheckTest {
         // never met, so that any line follows from it
         x.rule(1, 99);
         String all = "r0 +0.0 +1.0;r0 +0.0 +1.1;r0 +0.1 +1.0;r0 +0.1 +1.1;";
-        due.is("units alone see nothing", right(x, all + "u;"), 4);
-        due.is("by split of cell 0", right(x, all + "s0;"), 5);
-        due.is("by split of cell 1", right(x, all + "s1;"), 5);
-        due.is("by split of a cell that says nothing", right(x, all + "s3;"), 4);
-        due.is("by split of no such cell", right(x, all + "s4;"), 4);
-        due.is("by split where units do", right(x, all + "s3 +0.0;"), 5);
-        due.is("by split of no such cell where units do", right(x, all + "s4 +0.0;"), 4);
-        due.is("by split, nothing ahead", right(x, "s0;"), 0);
-        due.is("by split, is or is not", right(x, "s0 +0.0 -0.0;"), 1);
+        due.is("units alone see nothing", Due.right(x, all + "u;"), 4);
+        due.is("by split of cell 0", Due.right(x, all + "s0;"), 5);
+        due.is("by split of cell 1", Due.right(x, all + "s1;"), 5);
+        due.is("by split of a cell that says nothing", Due.right(x, all + "s3;"), 4);
+        due.is("by split of no such cell", Due.right(x, all + "s4;"), 4);
+        due.is("by split where units do", Due.right(x, all + "s3 +0.0;"), 5);
+        due.is("by split of no such cell where units do", Due.right(x, all + "s4 +0.0;"), 4);
+        due.is("by split, nothing ahead", Due.right(x, "s0;"), 0);
+        due.is("by split, is or is not", Due.right(x, "s0 +0.0 -0.0;"), 1);
         x.line(2, -1);
         x.literal(0, 0, true);
         x.literal(0, 0, false);
-        due.is("by split of cell -1", right(x, ""), 0);
-        splitNeedsEachSymbol(x);
+        due.is("by split of cell -1", Due.rightAndGone(x), 0);
+        splitNeedsEachSymbol();
         splitOfWhatIsLeft();
     }
 
-    private static void splitNeedsEachSymbol(ProofChecker x) {
-        due.is("the last symbol fails not", right(x, "r0 -0.0 +1.0;r0 -0.0 +1.1;s0;"), 2);
-        due.is("the first symbol fails not", right(x, "r0 -0.1 +1.0;r0 -0.1 +1.1;s0;"), 2);
+    private static void splitNeedsEachSymbol() {
+        ProofChecker x = new ProofChecker(2, 2, 2);
+        x.rule(1, 99);
+        due.is("the last symbol fails not", Due.right(x, "r0 -0.0 +1.0;r0 -0.0 +1.1;s0;"), 2);
+        due.is("the first symbol fails not", Due.right(x, "r0 -0.1 +1.0;r0 -0.1 +1.1;s0;"), 2);
         due.is("each symbol starts from the same",
-                right(x, "r0 -0.0 +1.0;r0 -0.0 +1.1;r0 -0.1 +1.1;s0;"), 3);
+                Due.right(x, "r0 -0.0 +1.0;r0 -0.0 +1.1;r0 -0.1 +1.1;s0;"), 3);
         due.is("only one cell is split",
-                right(x, "r0 +0.0 +1.0 +2.0;r0 +0.0 +1.1 +2.0;r0 +0.1 +1.0 +2.0;r0 +0.1 +1.1 +2.0;s0;"), 4);
+                Due.right(x, "r0 +0.0 +1.0 +2.0;r0 +0.0 +1.1 +2.0;r0 +0.1 +1.0 +2.0;r0 +0.1 +1.1 +2.0;s0;"), 4);
         due.is("with a literal of the line",
-                right(x, "r0 +0.0 +1.0 +2.0;r0 +0.0 +1.1 +2.0;r0 +0.1 +1.0 +2.0;r0 +0.1 +1.1 +2.0;s0 +2.0;"), 5);
+                Due.right(x, "r0 +0.0 +1.0 +2.0;r0 +0.0 +1.1 +2.0;r0 +0.1 +1.0 +2.0;r0 +0.1 +1.1 +2.0;s0 +2.0;"), 5);
     }
 
     private static void splitOfWhatIsLeft() {
         ProofChecker x = new ProofChecker(2, 1, 3);
         x.rule(1, 99);
         String two = "r0 -0.0 +1.0;r0 -0.0 -1.0;r0 -0.1 +1.0;r0 -0.1 -1.0;";
-        due.is("symbol 2 is left", right(x, two + "s0;"), 4);
-        due.is("symbol 2 is not left by a line", right(x, "r0 -0.2 +1.1;" + two + "s0 +1.1;"), 6);
-        due.is("symbol 2 is not left by the line itself", right(x, two + "s0 +0.2;"), 5);
-        due.is("symbol 2 alone is left by the line itself", right(x, two + "s0 -0.2;"), 4);
+        due.is("symbol 2 is left", Due.right(x, two + "s0;"), 4);
+        due.is("symbol 2 is not left by a line", Due.right(x, "r0 -0.2 +1.1;" + two + "s0 +1.1;"), 6);
+        due.is("symbol 2 is not left by the line itself", Due.right(x, two + "s0 +0.2;"), 5);
+        due.is("symbol 2 alone is left by the line itself", Due.right(x, two + "s0 -0.2;"), 4);
     }
 
     private static void barred() {
         ProofChecker x = new ProofChecker(2, 1, 3);
         Due.rule(x, 1, 3, 0, 1);
-        due.is("barred without an answer", right(x, "b -0.1 -1.2;"), 0);
+        due.is("barred without an answer", Due.right(x, "b -0.1 -1.2;"), 0);
         Due.answer(x, 1);
-        due.is("barred, not whole", right(x, "b -0.1 -1.2;"), 0);
-        due.is("barred, not whole, fewer literals", right(x, "b -0.1;"), 0);
+        due.is("barred, not whole", Due.right(x, "b -0.1 -1.2;"), 0);
+        due.is("barred, not whole, fewer literals", Due.right(x, "b -0.1;"), 0);
         Due.answer(x, 1, 1);
-        due.is("barred, a rule not met", right(x, "b -0.1 -1.1;"), 0);
+        due.is("barred, a rule not met", Due.right(x, "b -0.1 -1.1;"), 0);
         Due.answer(x, 1, 2);
-        due.is("barred", right(x, "b -0.1 -1.2;"), 1);
-        due.is("barred in another order", right(x, "b -1.2 -0.1;"), 1);
-        due.is("barred, one literal too few", right(x, "b -0.1;"), 0);
-        due.is("barred, no literals", right(x, "b;"), 0);
-        due.is("barred, one too many", right(x, "b -0.1 -1.2 -1.1;"), 0);
-        due.is("barred, a literal that it is", right(x, "b -0.1 +1.2;"), 0);
-        due.is("barred, a first literal that it is", right(x, "b +0.1 -1.2;"), 0);
-        due.is("barred, another symbol", right(x, "b -0.1 -1.1;"), 0);
-        due.is("barred, another symbol first", right(x, "b -0.2 -1.2;"), 0);
-        due.is("barred, one cell twice", right(x, "b -0.1 -0.2;"), 0);
-        due.is("barred lines are used by units", right(x, "b -0.1 -1.2;u -0.1 -1.2;"), 2);
+        due.is("barred", Due.right(x, "b -0.1 -1.2;"), 1);
+        due.is("barred in another order", Due.right(x, "b -1.2 -0.1;"), 1);
+        due.is("barred, one literal too few", Due.right(x, "b -0.1;"), 0);
+        due.is("barred, no literals", Due.right(x, "b;"), 0);
+        due.is("barred, one too many", Due.right(x, "b -0.1 -1.2 -1.1;"), 0);
+        due.is("barred, a literal that it is", Due.right(x, "b -0.1 +1.2;"), 0);
+        due.is("barred, a first literal that it is", Due.right(x, "b +0.1 -1.2;"), 0);
+        due.is("barred, another symbol", Due.right(x, "b -0.1 -1.1;"), 0);
+        due.is("barred, another symbol first", Due.right(x, "b -0.2 -1.2;"), 0);
+        due.is("barred, one cell twice", Due.right(x, "b -0.1 -0.2;"), 0);
+        due.is("barred lines are used by units", Due.right(x, "b -0.1 -1.2;u -0.1 -1.2;"), 2);
         x.rule(1, 1);
-        due.is("barred, a rule without cells not met", right(x, "b -0.1 -1.2;"), 0);
+        due.is("barred, a rule without cells not met", Due.right(x, "b -0.1 -1.2;"), 0);
     }
 
     private static void barredOfSixteen() {

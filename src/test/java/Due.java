@@ -1,3 +1,5 @@
+import java.util.stream.IntStream;
+
 /** What the tests share: they count and print the answers that are not as due. */
 final class Due {
     static final String NO_INDEX = "java.lang.ArrayIndexOutOfBoundsException";
@@ -10,30 +12,62 @@ final class Due {
 
     private int looked = 0;
     private int wrong = 0;
+    private String sentence = "";
+    private int lookedBefore = 0;
+
+    /** What is looked at from here on, up to the next sentence, tests this one of the document. */
+    void sentence(String words) {
+        endSentence();
+        sentence = words;
+        lookedBefore = looked;
+    }
+
+    private void endSentence() {
+        if (!sentence.isEmpty() && looked == lookedBefore) {
+            wrong++;
+            System.out.println("[" + sentence + "] nothing was looked at");
+        }
+    }
 
     void is(String what, Object got, Object want) {
         looked++;
         if (!got.equals(want)) {
             wrong++;
-            System.out.println(what + " answered " + got + ", due is " + want);
+            String place = sentence.isEmpty() ? "" : "[" + sentence + "] ";
+            System.out.println(place + what + " answered " + got + ", due is " + want);
         }
     }
 
     void isThrown(String what, String exception, Call call) {
-        String got;
+        is(what, outcome(call), exception);
+    }
+
+    /** A call's answer, or the name of the exception that it throws. */
+    static Object outcome(Call call) {
         try {
-            got = "the answer " + call.make();
+            return call.make();
         } catch (RuntimeException e) {
-            got = e.getClass().getName();
+            return e.getClass().getName();
         }
-        is(what, got, exception);
     }
 
     void end() {
+        endSentence();
         System.out.println(looked + " answers looked at, " + wrong + " not as due");
         if (wrong != 0 || looked == 0) {
             System.exit(1);
         }
+    }
+
+    /**
+     * Numbers that are not least .. most: the nearest ones, the least and the greatest int, and some
+     * of which only the low bits are within.
+     */
+    static int[] outside(int least, int most) {
+        int low = Math.max(least, 0);
+        return IntStream.of(Integer.MIN_VALUE, Integer.MIN_VALUE + 1, Integer.MIN_VALUE + low, -65536 + low,
+                -256 + low, least - 2, least - 1, most + 1, most + 2, 256 + low, 65536 + low,
+                Integer.MAX_VALUE - 1, Integer.MAX_VALUE).filter(n -> n < least || n > most).distinct().toArray();
     }
 
     /** Sends a text to be read, byte by byte, and reads it. */
@@ -44,6 +78,24 @@ final class Due {
             }
         }
         return x.read();
+    }
+
+    /** How many of the lines of a text are right; they go again. */
+    static int right(ProofChecker x, String text) {
+        int came = read(x, text);
+        if (came < 0) {
+            throw new IllegalStateException("not read: " + text);
+        }
+        return rightAndGone(x);
+    }
+
+    /** How many lines are right; all go. */
+    static int rightAndGone(ProofChecker x) {
+        int right = x.check();
+        while (x.drop()) {
+            continue;
+        }
+        return right;
     }
 
     /** Makes a rule with these cells. */
