@@ -43,6 +43,7 @@ public final class EdgesOfReadingTest {
             twins.refuse("unit(" + u + ") at first", false, Twins::empty, y -> y.unit(u));
             twins.refuse("unit(" + u + ")", false, Twins::some, y -> y.unit(u));
             twins.refuse("unit(" + u + ") as a 301st", false, Twins::fullOfBytes, y -> y.unit(u));
+            isReadBehindRefused(u);
         }
         for (int high : new int[] {-256, 256, 65536, 1 << 24, Integer.MIN_VALUE}) {
             twins.refuse("unit(';' + " + high + ")", false, Twins::some, y -> y.unit(';' + high));
@@ -60,9 +61,17 @@ public final class EdgesOfReadingTest {
         due.is("byte 302", x.unit(0), false);
         for (int u : new int[] {0, ' ', ';', 'u', 255}) {
             twins.refuse("byte 301: " + u, false, Twins::fullOfBytes, y -> y.unit(u));
+            isReadBehindRefused(u);
         }
         due.is("300 bytes are read", Due.read(new ProofChecker(4, 4, 6), sixLines()), 6);
         due.is("the 300th is read", read(sixLines().substring(0, 299) + "?"), -300);
+    }
+
+    /** Twins get one byte more before they read, which would hide a 300th byte that was written over. */
+    private static void isReadBehindRefused(int u) {
+        ProofChecker x = Twins.fullOfBytes();
+        due.is("byte 301: " + u, x.unit(u), false);
+        due.is("the 300 ahead of it are read", x.read(), 6);
     }
 
     /** 300 bytes that are six lines. */
@@ -84,6 +93,13 @@ public final class EdgesOfReadingTest {
         due.is("a wrong byte with others behind", Due.read(x, "u;?u;u;"), -3);
         due.is("they are gone too", x.read(), 0);
         due.is("lines", lineCount(x), 1);
+        String line = "r12 +3.1 -0.1;";
+        for (int length = 1; length < line.length(); length++) {
+            ProofChecker y = new ProofChecker(2, 2, 2);
+            due.is(line, Due.read(y, line), 1);
+            due.is("what is gone is not read behind " + length + " bytes",
+                    Due.read(y, line.substring(0, length)), -1 - length);
+        }
         for (String text : new String[] {sixLines(), sixLines().replace(';', '?')}) {
             ProofChecker y = new ProofChecker(4, 4, 6);
             due.is("300 bytes", Due.read(y, text), text.indexOf('?') < 0 ? 6 : -50);
@@ -400,7 +416,13 @@ public final class EdgesOfReadingTest {
                 due.is(ahead + line, read(ahead + line), ahead.isEmpty() ? 1 : 2);
             }
         }
-        due.is("the end behind 300 bytes", read("u;" + sixLines().substring(0, 298)), -301);
+        String last = "r12 +3.2 -10.1;";
+        for (int length = 1; length < last.length(); length++) {
+            int rest = 50 - length;
+            String between = "u;".repeat(rest % 2 == 0 ? rest / 2 : (rest - 3) / 2) + "r1;".repeat(rest % 2);
+            String text = sixLines().substring(0, 250) + between + last.substring(0, length);
+            due.is("the end behind " + text.length() + " bytes", read(text), -301);
+        }
     }
 
     private static void firstWrongByte() {

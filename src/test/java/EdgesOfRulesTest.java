@@ -535,6 +535,8 @@ public final class EdgesOfRulesTest {
         due.is("two, round the edge", tested(4, 0, 0, 0, 1, 1, 0, 0, 0, 0, 0), 0);
         due.is("a chain as long as can be", tested(4, 0, 1, 1, 1, 0, 0, 1, 1, 1, 1), 1);
         due.is("the same from below", tested(4, 0, 1, 1, 1, 1, 0, 0, 1, 1, 1), 1);
+        due.is("down, and up again", tested(4, 0, 1, 0, 1, 1, 0, 1, 1, 1, 1), 1);
+        due.is("down, and to the left", tested(4, 0, 0, 1, 0, 1, 1, 0, 0, 0, 0), 1);
         due.is("the chain cut", tested(4, 0, 1, 1, 1, 0, 0, 0, 1, 1, 1), 0);
         due.is("another symbol joins nothing", tested(4, 0, 1, 2, 1, 0, 2, 0, 0, 2, 0), 0);
         due.is("others than symbol 1 need not hang together", tested(4, 0, 2, 0, 2, 0, 1, 0, 2, 0, 2), 1);
@@ -544,6 +546,10 @@ public final class EdgesOfRulesTest {
         Due.answer(x, 1, 1, 1);
         due.is("not by a cell that is not of the rule", x.test(0), 0);
         due.is("by a cell of the rule", x.test(1), 1);
+        ProofChecker z = new ProofChecker(3, 3, 2);
+        Due.rule(z, 4, 0, 5, 8);
+        Due.answer(z, 1, 0, 1, 0, 0, 1, 1, 0, 1);
+        due.is("cells that are not of the rule need not", z.test(0), 1);
         ProofChecker y = new ProofChecker(1, 1, 1);
         Due.rule(y, 4, 0, 0);
         y.answer(0, 0);
