@@ -98,6 +98,30 @@ final class Due {
         return right;
     }
 
+    /** An object with a rule that no way meets, so that each line follows from it. */
+    static ProofChecker withNeverMet(int width, int height, int symbols) {
+        ProofChecker x = new ProofChecker(width, height, symbols);
+        x.rule(1, 99);
+        return x;
+    }
+
+    /** Makes a line with the literals of a text, as "+0.1 -2.0". */
+    static int line(ProofChecker x, int kind, int number, String literals) {
+        int line = x.line(kind, number);
+        for (String literal : literals.isEmpty() ? new String[0] : literals.split(" ")) {
+            int point = literal.indexOf('.');
+            x.literal(Integer.parseInt(literal.substring(1, point)),
+                    Integer.parseInt(literal.substring(point + 1)), literal.charAt(0) == '+');
+        }
+        return line;
+    }
+
+    /** Whether a line with the literals of a text is right as the first one; it goes again. */
+    static int rightAlone(ProofChecker x, int kind, int number, String literals) {
+        line(x, kind, number, literals);
+        return rightAndGone(x);
+    }
+
     /** Makes a rule with these cells. */
     static int rule(ProofChecker x, int kind, int number, int... cells) {
         int rule = x.rule(kind, number);

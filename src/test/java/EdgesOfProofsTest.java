@@ -46,24 +46,6 @@ public final class EdgesOfProofsTest {
         due.end();
     }
 
-    /** Whether a line of this kind and number with the literals of a text is right as the first one. */
-    private static int rightAlone(ProofChecker x, int kind, int number, String literals) {
-        x.line(kind, number);
-        for (String literal : literals.isEmpty() ? new String[0] : literals.split(" ")) {
-            int point = literal.indexOf('.');
-            x.literal(Integer.parseInt(literal.substring(1, point)),
-                    Integer.parseInt(literal.substring(point + 1)), literal.charAt(0) == '+');
-        }
-        return Due.rightAndGone(x);
-    }
-
-    /** An object with a rule that no way meets, so that each line follows from it. */
-    private static ProofChecker withNeverMet(int width, int height, int symbols) {
-        ProofChecker x = new ProofChecker(width, height, symbols);
-        x.rule(1, 99);
-        return x;
-    }
-
     // BY RULE
 
     private static void byNoRule() {
@@ -74,11 +56,11 @@ public final class EdgesOfProofsTest {
                 Due.rule(x, 0, 0, 0);
             }
             for (int number : Due.outside(0, rules - 1)) {
-                due.is("rule " + number + " of " + rules, rightAlone(x, 0, number, "+0.0 -0.0"), 0);
+                due.is("rule " + number + " of " + rules, Due.rightAlone(x, 0, number, "+0.0 -0.0"), 0);
             }
             if (rules > 0) {
-                due.is("the first of " + rules, rightAlone(x, 0, 0, "+0.0 -0.0"), 1);
-                due.is("the last of " + rules, rightAlone(x, 0, rules - 1, "+0.0 -0.0"), 1);
+                due.is("the first of " + rules, Due.rightAlone(x, 0, 0, "+0.0 -0.0"), 1);
+                due.is("the last of " + rules, Due.rightAlone(x, 0, rules - 1, "+0.0 -0.0"), 1);
             }
         }
     }
@@ -98,9 +80,9 @@ public final class EdgesOfProofsTest {
                 }
                 String name = symbols + " symbols, " + size + " cells";
                 int want = size <= most[symbols - 1] ? 1 : 0;
-                due.is(name + ", never met", rightAlone(x, 0, 0, ""), want);
+                due.is(name + ", never met", Due.rightAlone(x, 0, 0, ""), want);
                 // in each way one of these is so, if the cell is one of the rule's
-                due.is(name + ", is or is not", rightAlone(x, 0, 1, "+15.0 -15.0"), size == 0 ? 0 : want);
+                due.is(name + ", is or is not", Due.rightAlone(x, 0, 1, "+15.0 -15.0"), size == 0 ? 0 : want);
             }
         }
     }
@@ -112,41 +94,41 @@ public final class EdgesOfProofsTest {
         Due.rule(x, 1, 18, 0, 1, 2, 3, 4, 5);
         Due.rule(x, 1, 17, 0, 1, 2, 3, 4, 5);
         for (int cell = 0; cell < 6; cell++) {
-            due.is("the first of 4096 ways alone", rightAlone(x, 0, 0, "+" + cell + ".0"), 1);
-            due.is("the last of 4096 ways alone", rightAlone(x, 0, 1, "+" + cell + ".3"), 1);
-            due.is("six ways, not in each", rightAlone(x, 0, 2, "+" + cell + ".3"), 0);
-            due.is("six ways, in each", rightAlone(x, 0, 2, "+" + cell + ".3 +" + cell + ".2"), 1);
+            due.is("the first of 4096 ways alone", Due.rightAlone(x, 0, 0, "+" + cell + ".0"), 1);
+            due.is("the last of 4096 ways alone", Due.rightAlone(x, 0, 1, "+" + cell + ".3"), 1);
+            due.is("six ways, not in each", Due.rightAlone(x, 0, 2, "+" + cell + ".3"), 0);
+            due.is("six ways, in each", Due.rightAlone(x, 0, 2, "+" + cell + ".3 +" + cell + ".2"), 1);
         }
-        due.is("six ways, two cells", rightAlone(x, 0, 2, "+0.3 +1.3"), 1);
-        due.is("six ways, none of them has this", rightAlone(x, 0, 2, "+0.1"), 0);
-        due.is("six ways, one at least", rightAlone(x, 0, 2, "+0.2 +1.2 +2.2 +3.2 +4.2 +5.2"), 1);
-        due.is("six ways, but for one", rightAlone(x, 0, 2, "+0.2 +1.2 +2.2 +3.2 +4.2"), 0);
-        due.is("six ways, but for the first", rightAlone(x, 0, 2, "+1.2 +2.2 +3.2 +4.2 +5.2"), 0);
-        due.is("no literals, where a way meets it", rightAlone(x, 0, 1, ""), 0);
+        due.is("six ways, two cells", Due.rightAlone(x, 0, 2, "+0.3 +1.3"), 1);
+        due.is("six ways, none of them has this", Due.rightAlone(x, 0, 2, "+0.1"), 0);
+        due.is("six ways, one at least", Due.rightAlone(x, 0, 2, "+0.2 +1.2 +2.2 +3.2 +4.2 +5.2"), 1);
+        due.is("six ways, but for one", Due.rightAlone(x, 0, 2, "+0.2 +1.2 +2.2 +3.2 +4.2"), 0);
+        due.is("six ways, but for the first", Due.rightAlone(x, 0, 2, "+1.2 +2.2 +3.2 +4.2 +5.2"), 0);
+        due.is("no literals, where a way meets it", Due.rightAlone(x, 0, 1, ""), 0);
     }
 
     private static void byRuleThatNoWayMeets() {
         due.sentence("Terms, BY RULE: in each way that meets it (there may be none)");
         ProofChecker x = new ProofChecker(3, 1, 2);
         Due.rule(x, 0, 0, 0, 1, 2);
-        due.is("no literals", rightAlone(x, 0, 0, ""), 1);
-        due.is("any literal", rightAlone(x, 0, 0, "+2.1"), 1);
+        due.is("no literals", Due.rightAlone(x, 0, 0, ""), 1);
+        due.is("any literal", Due.rightAlone(x, 0, 0, "+2.1"), 1);
         x.rule(1, 1);
-        due.is("a rule without cells that is not met", rightAlone(x, 0, 1, ""), 1);
+        due.is("a rule without cells that is not met", Due.rightAlone(x, 0, 1, ""), 1);
         x.rule(1, 0);
-        due.is("a rule without cells that is met", rightAlone(x, 0, 2, ""), 0);
-        due.is("a rule without cells that is met, is or is not", rightAlone(x, 0, 2, "+0.0 -0.0"), 0);
+        due.is("a rule without cells that is met", Due.rightAlone(x, 0, 2, ""), 0);
+        due.is("a rule without cells that is met, is or is not", Due.rightAlone(x, 0, 2, "+0.0 -0.0"), 0);
     }
 
     private static void byRuleOfOtherCells() {
         due.sentence("Terms, BY RULE: (those of other cells are not)");
         ProofChecker x = new ProofChecker(3, 1, 2);
         Due.rule(x, 1, 2, 0, 1);
-        due.is("one of its cells", rightAlone(x, 0, 0, "+1.1"), 1);
-        due.is("another cell is or is not", rightAlone(x, 0, 0, "+2.0 -2.0"), 0);
-        due.is("another cell is one or the other", rightAlone(x, 0, 0, "+2.0 +2.1"), 0);
-        due.is("another cell is not one or not the other", rightAlone(x, 0, 0, "-2.0 -2.1"), 0);
-        due.is("one of its cells and others", rightAlone(x, 0, 0, "+2.0 -2.0 +0.1"), 1);
+        due.is("one of its cells", Due.rightAlone(x, 0, 0, "+1.1"), 1);
+        due.is("another cell is or is not", Due.rightAlone(x, 0, 0, "+2.0 -2.0"), 0);
+        due.is("another cell is one or the other", Due.rightAlone(x, 0, 0, "+2.0 +2.1"), 0);
+        due.is("another cell is not one or not the other", Due.rightAlone(x, 0, 0, "-2.0 -2.1"), 0);
+        due.is("one of its cells and others", Due.rightAlone(x, 0, 0, "+2.0 -2.0 +0.1"), 1);
     }
 
     // BY UNITS
@@ -155,17 +137,17 @@ public final class EdgesOfProofsTest {
         due.sentence("Terms, BY UNITS: if it says that the cell is a symbol, the cell may not be that; "
                 + "if that it is not, the cell may be that alone (of what it may be)");
         ProofChecker x = new ProofChecker(2, 1, 3);
-        due.is("+0 +1", rightAlone(x, 1, 0, "+0.0 +0.1"), 0);
-        due.is("+0 +1 +2", rightAlone(x, 1, 0, "+0.0 +0.1 +0.2"), 1);
-        due.is("+0 +1 of one cell, +2 of another", rightAlone(x, 1, 0, "+0.0 +0.1 +1.2"), 0);
-        due.is("-0", rightAlone(x, 1, 0, "-0.0"), 0);
-        due.is("-0 -1", rightAlone(x, 1, 0, "-0.0 -0.1"), 1);
-        due.is("-0 of one cell, -1 of another", rightAlone(x, 1, 0, "-0.0 -1.1"), 0);
-        due.is("-0 +0", rightAlone(x, 1, 0, "-0.0 +0.0"), 1);
-        due.is("+0 -0", rightAlone(x, 1, 0, "+0.0 -0.0"), 1);
-        due.is("-0 +1", rightAlone(x, 1, 0, "-0.0 +0.1"), 0);
+        due.is("+0 +1", Due.rightAlone(x, 1, 0, "+0.0 +0.1"), 0);
+        due.is("+0 +1 +2", Due.rightAlone(x, 1, 0, "+0.0 +0.1 +0.2"), 1);
+        due.is("+0 +1 of one cell, +2 of another", Due.rightAlone(x, 1, 0, "+0.0 +0.1 +1.2"), 0);
+        due.is("-0", Due.rightAlone(x, 1, 0, "-0.0"), 0);
+        due.is("-0 -1", Due.rightAlone(x, 1, 0, "-0.0 -0.1"), 1);
+        due.is("-0 of one cell, -1 of another", Due.rightAlone(x, 1, 0, "-0.0 -1.1"), 0);
+        due.is("-0 +0", Due.rightAlone(x, 1, 0, "-0.0 +0.0"), 1);
+        due.is("+0 -0", Due.rightAlone(x, 1, 0, "+0.0 -0.0"), 1);
+        due.is("-0 +1", Due.rightAlone(x, 1, 0, "-0.0 +0.1"), 0);
         for (int number : new int[] {MIN, -1, 1, 99, MAX}) {
-            due.is("whatever its number: " + number, rightAlone(x, 1, number, "+0.0 -0.0"), 1);
+            due.is("whatever its number: " + number, Due.rightAlone(x, 1, number, "+0.0 -0.0"), 1);
         }
     }
 
@@ -173,14 +155,14 @@ public final class EdgesOfProofsTest {
         due.sentence("Terms, BY UNITS: a cell that may be nothing CAN'T BE");
         for (int cell = 0; cell < 16; cell++) {
             ProofChecker x = new ProofChecker(4, 4, 2);
-            due.is("cell " + cell + " may be nothing", rightAlone(x, 1, 0, "+" + cell + ".0 +" + cell + ".1"), 1);
-            due.is("cell " + cell + " may be one", rightAlone(x, 1, 0, "+" + cell + ".0"), 0);
+            due.is("cell " + cell + " may be nothing", Due.rightAlone(x, 1, 0, "+" + cell + ".0 +" + cell + ".1"), 1);
+            due.is("cell " + cell + " may be one", Due.rightAlone(x, 1, 0, "+" + cell + ".0"), 0);
         }
     }
 
     private static void unitsOfEmptyLines() {
         due.sentence("Terms, BY UNITS: when each of its literals IS NOT SO: that CAN'T BE (as where it has none)");
-        ProofChecker x = withNeverMet(2, 1, 2);
+        ProofChecker x = Due.withNeverMet(2, 1, 2);
         due.is("no lines ahead", Due.right(x, "u;"), 0);
         due.is("an empty line ahead", Due.right(x, "r0;u;"), 2);
         due.is("an empty line ahead, with a literal", Due.right(x, "r0;u +1.1;"), 2);
@@ -191,7 +173,7 @@ public final class EdgesOfProofsTest {
 
     private static void unitsOfOneOpenLiteral() {
         due.sentence("Terms, BY UNITS: when none IS SO and just one is open, that one is made so");
-        ProofChecker x = withNeverMet(3, 1, 3);
+        ProofChecker x = Due.withNeverMet(3, 1, 3);
         due.is("one open", Due.right(x, "r0 +0.0;u +0.0;"), 2);
         due.is("one open, that it is not", Due.right(x, "r0 -0.0;u -0.0;"), 2);
         due.is("two open", Due.right(x, "r0 +0.0 +1.0;u +0.0;"), 1);
@@ -211,7 +193,7 @@ public final class EdgesOfProofsTest {
     private static void unitsOfOneSymbol() {
         due.sentence("Terms, BY UNITS: A literal that a cell is s IS SO when it may be s alone, "
                 + "IS NOT SO when it may not be s (from the first on, where there is one symbol)");
-        ProofChecker x = withNeverMet(2, 1, 1);
+        ProofChecker x = Due.withNeverMet(2, 1, 1);
         due.is("it is", Due.right(x, "u +0.0;"), 1);
         due.is("it is not", Due.right(x, "u -0.0;"), 0);
         due.is("it is, ahead", Due.right(x, "r0 +0.0;u;"), 1);
@@ -223,7 +205,7 @@ public final class EdgesOfProofsTest {
     private static void unitsFromTheFirstOnAgain() {
         due.sentence("Terms, BY UNITS: in order, from the first one on again after each change");
         // 58 lines, each of which can make its step only when the one behind it has made it
-        ProofChecker x = withNeverMet(4, 4, 6);
+        ProofChecker x = Due.withNeverMet(4, 4, 6);
         int steps = 57;
         for (int n = steps; n > 0; n--) {
             x.line(0, 0);
@@ -252,7 +234,7 @@ public final class EdgesOfProofsTest {
 
     private static void unitsOfLinesAhead() {
         due.sentence("Terms, BY UNITS: For the lines ahead (not the line itself, nor those behind)");
-        ProofChecker x = withNeverMet(2, 1, 2);
+        ProofChecker x = Due.withNeverMet(2, 1, 2);
         due.is("the line itself", Due.right(x, "u +0.0;"), 0);
         due.is("a line behind", Due.right(x, "u +0.0;r0 +0.0;"), 0);
         due.is("the line ahead", Due.right(x, "r0 +0.0;u +0.0;"), 2);
@@ -268,16 +250,16 @@ public final class EdgesOfProofsTest {
             ProofChecker x = new ProofChecker(size[0], size[1], 2);
             int cells = size[0] * size[1];
             for (int number : Due.outside(0, cells - 1)) {
-                due.is("cell " + number + " of " + cells, rightAlone(x, 2, number, "+0.0 -0.0"), 0);
+                due.is("cell " + number + " of " + cells, Due.rightAlone(x, 2, number, "+0.0 -0.0"), 0);
             }
-            due.is("the first of " + cells, rightAlone(x, 2, 0, "+0.0 -0.0"), 1);
-            due.is("the last of " + cells, rightAlone(x, 2, cells - 1, "+0.0 -0.0"), 1);
+            due.is("the first of " + cells, Due.rightAlone(x, 2, 0, "+0.0 -0.0"), 1);
+            due.is("the last of " + cells, Due.rightAlone(x, 2, cells - 1, "+0.0 -0.0"), 1);
         }
     }
 
     private static void splitWhereUnitsDo() {
         due.sentence("Terms, BY SPLIT: and by units something can't be as in kind 1");
-        ProofChecker x = withNeverMet(2, 1, 2);
+        ProofChecker x = Due.withNeverMet(2, 1, 2);
         due.is("a cell that may be nothing", Due.right(x, "s1 +0.0 +0.1;"), 1);
         due.is("an empty line ahead", Due.right(x, "r0;s1;"), 2);
         due.is("by a step", Due.right(x, "r0 +0.0;s1 +0.0;"), 2);
@@ -290,7 +272,7 @@ public final class EdgesOfProofsTest {
                 + "something can't be, by units going on from there");
         for (int symbols = 2; symbols <= 6; symbols++) {
             for (int open = 0; open < symbols; open++) {
-                ProofChecker x = withNeverMet(2, 1, symbols);
+                ProofChecker x = Due.withNeverMet(2, 1, symbols);
                 StringBuilder text = new StringBuilder();
                 for (int symbol = 0; symbol < symbols; symbol++) {
                     if (symbol != open) {
@@ -307,7 +289,7 @@ public final class EdgesOfProofsTest {
                 due.is("all of " + symbols + ", " + open + " last", Due.right(x, text + "s0;"), ahead + 3);
             }
         }
-        ProofChecker x = withNeverMet(3, 1, 2);
+        ProofChecker x = Due.withNeverMet(3, 1, 2);
         String each = "r0 -0.0 +1.0;r0 -0.0 +1.1;r0 -0.1 +2.0;r0 -0.1 +2.1;";
         due.is("each symbol from the same state", Due.right(x, each + "s0;"), 5);
         due.is("not what the symbol ahead made of others",
@@ -316,7 +298,7 @@ public final class EdgesOfProofsTest {
 
     private static void splitOfWhatItMayBeThen() {
         due.sentence("Terms, BY SPLIT: that the cell may be then (after the units, not at first)");
-        ProofChecker x = withNeverMet(2, 1, 3);
+        ProofChecker x = Due.withNeverMet(2, 1, 3);
         String two = "r0 -0.0 +1.0;r0 -0.0 -1.0;r0 -0.1 +1.0;r0 -0.1 -1.0;";
         due.is("it may be symbol 2", Due.right(x, two + "s0;"), 4);
         due.is("a line takes symbol 2 away", Due.right(x, two + "r0 -0.2;s0;"), 6);
@@ -351,7 +333,7 @@ public final class EdgesOfProofsTest {
         x.answer(1, 1);
         due.is("all is said, no rules", Due.right(x, "b -0.1 -1.1;"), 1);
         for (int number : new int[] {MIN, -1, 5, 99, MAX}) {
-            due.is("whatever its number: " + number, rightAlone(x, 3, number, "-0.1 -1.1"), 1);
+            due.is("whatever its number: " + number, Due.rightAlone(x, 3, number, "-0.1 -1.1"), 1);
         }
     }
 
@@ -422,7 +404,7 @@ public final class EdgesOfProofsTest {
 
     private static void checkFromTheFirst() {
         due.sentence("Promise 10: How many lines are right, from the first one on");
-        ProofChecker x = withNeverMet(2, 1, 2);
+        ProofChecker x = Due.withNeverMet(2, 1, 2);
         due.is("no lines", x.check(), 0);
         due.is("the first is wrong", Due.right(x, "r1 +0.0;r0 +0.0;r0 +0.0;"), 0);
         due.is("the second is wrong", Due.right(x, "r0 +0.0;r1 +0.0;r0 +0.0;"), 1);
@@ -433,7 +415,7 @@ public final class EdgesOfProofsTest {
     private static void checkOfSixty() {
         due.sentence("Promise 10: How many lines are right (of as many as there may be)");
         for (int wrong = 0; wrong <= 60; wrong++) {
-            ProofChecker x = withNeverMet(2, 1, 2);
+            ProofChecker x = Due.withNeverMet(2, 1, 2);
             for (int line = 0; line < 60; line++) {
                 x.line(0, line == wrong ? 1 : 0);
             }
@@ -473,7 +455,7 @@ public final class EdgesOfProofsTest {
 
     private static void provesNot() {
         due.sentence("Promise 11: 0 when not");
-        ProofChecker x = withNeverMet(2, 1, 2);
+        ProofChecker x = Due.withNeverMet(2, 1, 2);
         due.is("no lines", x.proves(), 0);
         due.is("the last one has a literal", proof(x, "r0 +0.0;"), 0);
         due.is("the last one has a literal, the one ahead none", proof(x, "r0;r0 +0.0;"), 0);
@@ -497,7 +479,7 @@ public final class EdgesOfProofsTest {
 
     private static void provesNoAnswer() {
         due.sentence("Promise 11: 1 when no line is BARRED (there is no answer)");
-        ProofChecker x = withNeverMet(1, 1, 2);
+        ProofChecker x = Due.withNeverMet(1, 1, 2);
         x.rule(1, 0);
         due.is("by rule", proof(x, "r0;"), 1);
         due.is("by units", proof(x, "r0 +0.0;r0 -0.0;u;"), 1);
