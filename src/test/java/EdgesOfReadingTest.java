@@ -336,6 +336,11 @@ public final class EdgesOfReadingTest {
         }
         due.is("behind a cell of two digits", read("u -15.6;"), -7);
         due.is("as the second literal", read("u +0.0 -15.6;"), -12);
+        for (int symbol = 0; symbol <= 5; symbol++) {
+            String has = "u +7." + symbol;
+            due.is("of a cell that has a literal, " + symbol, read(has + " +7.6;"), -11);
+            due.is("of a cell that has a literal, " + symbol + ", two digits", read(has + " +7.10;"), -12);
+        }
     }
 
     private static void literalsThatTheLineHas() {

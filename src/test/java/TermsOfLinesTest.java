@@ -265,12 +265,25 @@ public final class TermsOfLinesTest {
         due.is("it does no harm", Due.right(x, "r0 -1.1 +2.1 +1.1;"), 1);
         x.into(0, 1);
         due.is("once it is one of its cells", Due.right(x, "r0 +1.1 -1.1;"), 1);
+        for (int other = 0; other < 16; other++) {
+            // nine cells of sixteen, but for this one
+            ProofChecker y = new ProofChecker(4, 4, 2);
+            y.rule(4, 0);
+            for (int n = 1; n <= 9; n++) {
+                y.into(0, (other + n) % 16);
+            }
+            String isOrIsNot = "r0 +" + other + ".1 -" + other + ".1;";
+            due.is("other is " + other, Due.right(y, isOrIsNot), 0);
+            due.is("next to other is one of its cells", Due.right(y, isOrIsNot.replace(" -" + other + ".",
+                    " +" + (other + 1) % 16 + ".0 +" + (other + 1) % 16 + ".")), 1);
+        }
     }
 
     // BY UNITS
 
     private static void allSymbolsAtFirst() {
-        due.sentence("kind 1, BY UNITS: .. each cell MAY BE all symbols at first");
+        due.sentence("kind 1, BY UNITS: when what is said is turned round something can't be: "
+                + "each cell MAY BE all symbols at first");
         for (int symbols = 1; symbols <= 6; symbols++) {
             ProofChecker x = new ProofChecker(4, 4, symbols);
             for (int cell = 0; cell < 16; cell++) {
@@ -351,6 +364,16 @@ public final class TermsOfLinesTest {
             x.drop();
             Due.line(x, 1, 0, "+" + last + ".0");
             due.is("not the other way, " + cells, x.check(), cells);
+        }
+        // one cell, which each line takes a symbol from
+        for (int symbols = 2; symbols <= 6; symbols++) {
+            ProofChecker x = new ProofChecker(1, 1, symbols);
+            for (int symbol = symbols - 1; symbol > 0; symbol--) {
+                Due.line(x, 1, 0, "-0." + symbol);
+                due.is("from " + symbol + " on", x.may(0), (1 << symbol) - 1);
+            }
+            Due.line(x, 1, 0, "-0.0");
+            due.is("the last of " + symbols, x.may(0), 0);
         }
     }
 

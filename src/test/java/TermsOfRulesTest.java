@@ -253,7 +253,7 @@ public final class TermsOfRulesTest {
     }
 
     private static void unlike() {
-        due.sentence("kind 0 when all are unlike");
+        due.sentence("A way to fill its cells MEETS a rule of kind 0 when all are unlike");
         for (int number : new int[] {0, 1, 3, 99}) {
             eachWay(0, number, way -> way[0] != way[1] && way[0] != way[2] && way[1] != way[2]);
         }
